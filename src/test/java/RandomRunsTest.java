@@ -638,8 +638,8 @@ public final class RandomRunsTest {
     }
 
     public static void main(String[] args) {
-        int seeds = args.length > 0 ? Integer.parseInt(args[0]) : 600;
-        int step = args.length > 1 ? Integer.parseInt(args[1]) : 3;
+        int seeds = args.length > 0 ? Integer.parseInt(args[0]) : 2000;
+        int step = args.length > 1 ? Integer.parseInt(args[1]) : 1;
         for (int seed = 0; seed < seeds; seed++) {
             runOf(seed);
         }
