@@ -512,6 +512,9 @@ public final class BorrowedHours {
 
         /** The object of the dropped state is used again for the next one. */
         private void dropOldest() {
+            if (states.length == 0) {
+                return;
+            }
             Game oldest = states[0];
             for (int i = 1; i < states.length; i++) {
                 states[i - 1] = states[i];
@@ -668,7 +671,7 @@ public final class BorrowedHours {
                                 ? bidForces(rounds - 1, row / 2, owns[split], foes[split])
                                 : answerForces(rounds - 1, row / 2, owns[split], foes[split]);
                         times[index] = forces ? rounds : NEVER;
-                        more |= forces;
+                        more = more || forces;
                     }
                 }
             }

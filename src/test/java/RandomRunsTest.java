@@ -2,6 +2,7 @@ import java.util.ArrayDeque;
 import java.util.Arrays;
 import java.util.Deque;
 import java.util.HashMap;
+import java.util.LinkedHashMap;
 import java.util.Map;
 import java.util.Random;
 import java.util.regex.Matcher;
@@ -593,31 +594,78 @@ public final class RandomRunsTest {
         askAll(x, m, run);
     }
 
-    /** All states that a round or two lead to, under all settings, with all questions. */
-    private static void allBeginnings(int step) {
-        int at = 0;
+    /** A state, and the shortest way to it: the hours of a beginning, and then a bid and an answer for each round. */
+    private static final class Reached {
+        final State state;
+        final int[] way;
+
+        Reached(State state, int[] way) {
+            this.state = state;
+            this.way = way;
+        }
+
+        /** A state that a game can be in; what the players paid and won does not count here. */
+        long place() {
+            return key(state, 0, 0);
+        }
+
+        Reached behind(int bid, int answer) {
+            int[] longer = Arrays.copyOf(way, way.length + 2);
+            longer[way.length] = bid;
+            longer[way.length + 1] = answer;
+            return new Reached(RandomRunsTest.behind(state, bid, answer), longer);
+        }
+    }
+
+    /** Every state that a game can be in, under all settings, with all questions. */
+    private static void allStates() {
+        int states = 0;
         for (int code = 0; code < 36; code++) {
-            BorrowedHours x = null;
-            Model m = null;
+            int[] setting = {1 + code % 3, code / 3 % 3, code / 9 % 2, code / 18};
+            Map<Long, Reached> seen = new LinkedHashMap<>();
+            Deque<Reached> open = new ArrayDeque<>();
             for (int hours = 0; hours < 49; hours++) {
-                if (++at % step != 0) {
-                    continue;
-                }
-                x = new BorrowedHours();
-                m = new Model();
-                int[] value = {1 + code % 3, code / 3 % 3, code / 9 % 2, code / 18};
-                for (int setting = 0; setting < 4; setting++) {
-                    due("settings " + code, "set(" + setting + ", " + value[setting] + ")", x.set(setting, value[setting]), m.set(setting, value[setting]));
-                }
-                String run = "settings " + Arrays.toString(value) + ", hours " + hours / 7 + " " + hours % 7;
-                due(run, "begin()", x.begin(hours / 7, hours % 7), m.begin(hours / 7, hours % 7));
-                for (int round = 0; round < 4; round++) {
-                    askWhatIf(x, m, run + ", round " + round);
-                    int bid = hours / 7 % (m.now.most(m.now.first) + 1);
-                    int answer = hours % (m.now.most(1 - m.now.first) + 1);
-                    due(run, "round(" + bid + ", " + answer + ")", x.round(bid, answer), m.round(bid, answer));
+                State s = new State();
+                s.setting = setting;
+                s.hours = new int[] {hours / 7, hours % 7};
+                reach(new Reached(s, s.hours), seen, open);
+            }
+            while (!open.isEmpty()) {
+                Reached r = open.removeFirst();
+                for (int bid = 0; bid <= Math.min(14, r.state.most(r.state.first)); bid++) {
+                    for (int answer = 0; answer <= Math.min(14, r.state.most(1 - r.state.first)); answer++) {
+                        reach(r.behind(bid, answer), seen, open);
+                    }
                 }
             }
+            askIn(setting, seen.values());
+            states += seen.size();
+        }
+        System.out.println(states + " states");
+    }
+
+    /** A game that is over is a state as well, but nothing is behind it. */
+    private static void reach(Reached r, Map<Long, Reached> seen, Deque<Reached> open) {
+        if (seen.putIfAbsent(r.place(), r) == null && r.state.winner() == NONE) {
+            open.addLast(r);
+        }
+    }
+
+    private static void askIn(int[] setting, Iterable<Reached> all) {
+        for (Reached r : all) {
+            BorrowedHours x = new BorrowedHours();
+            Model m = new Model();
+            for (int i = 0; i < 4; i++) {
+                due("settings", "set(" + i + ", " + setting[i] + ")", x.set(i, setting[i]), m.set(i, setting[i]));
+            }
+            String run = "settings " + Arrays.toString(setting) + ", hours and rounds " + Arrays.toString(r.way);
+            due(run, "begin()", x.begin(r.way[0], r.way[1]), m.begin(r.way[0], r.way[1]));
+            for (int i = 2; i < r.way.length; i += 2) {
+                due(run, "round()", x.round(r.way[i], r.way[i + 1]), m.round(r.way[i], r.way[i + 1]));
+            }
+            askWhatIf(x, m, run);
+            due(run, "play()", x.play(), m.play());
+            askAll(x, m, run);
         }
     }
 
@@ -639,11 +687,10 @@ public final class RandomRunsTest {
 
     public static void main(String[] args) {
         int seeds = args.length > 0 ? Integer.parseInt(args[0]) : 2000;
-        int step = args.length > 1 ? Integer.parseInt(args[1]) : 1;
         for (int seed = 0; seed < seeds; seed++) {
             runOf(seed);
         }
-        allBeginnings(step);
+        allStates();
         if (args.length > 0) {
             GIVEN.entrySet().stream().sorted(Map.Entry.comparingByKey()).forEach(System.out::println);
         }
