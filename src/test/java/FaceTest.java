@@ -61,6 +61,7 @@ public final class FaceTest {
             if (isPublic(field)) {
                 constants.add(field.getName());
                 check(field + " is a constant", Modifier.isStatic(field.getModifiers()) && Modifier.isFinal(field.getModifiers()));
+                check(field + " is an int", field.getType() == int.class);
             }
         }
         check("the constants are those of the document: " + constants, constants.equals(CONSTANTS));
